@@ -103,7 +103,9 @@ public final class SchoolTest {
         x.tell(1, 0);
         x.later(7);
         x.sound(0, 0, 1, 4);
-        x.image(1);
+        for (int box = 0; box < 3; box++) {
+            x.image(box);
+        }
         x.reads(0, 0);
         return x;
     }
@@ -117,7 +119,9 @@ public final class SchoolTest {
         for (int what = 0; what < want.length; what++) {
             due.is("about(" + what + ") behind school", x.about(what), want[what]);
         }
-        due.is("back behind school", x.back(1), -1);
+        for (int box = 0; box < 3; box++) {
+            due.is("back(" + box + ") behind school", x.back(box), -1);
+        }
         due.is("not cobbled behind school", x.cobble(0, 0), 1);
         due.is("untell behind school", x.untell(0) ? 1 : 0, 0);
         due.is("school of nothing", x.school(), 0);

@@ -128,6 +128,7 @@ public final class TextsTest {
             due.lie("secret to one that hears nothing, of " + i, x);
         }
         exactlyFiveHundred();
+        theFiveHundredth();
         theFirstIsBehindFiveHundred();
     }
 
@@ -143,6 +144,16 @@ public final class TextsTest {
         due.is("2500 walks", x.doubled(0, 1), 2500);
         due.is("2500 walks can't", x.secret(0, 1, 2), -2);
         due.lie("2500 walks can't", x);
+    }
+
+    /** Of 511 walks 499 begin with a quiet step; ear g reads the step x behind a quiet one alone. */
+    private static void theFiveHundredth() {
+        LimpCode x = Due.taught("step a takes 1 loud 0;step b takes 3 loud 0;step c takes 5 loud 0;step x takes 8 loud 1;"
+            + "letter q a;letter p a x;ear e floors 2;ear f floors 3;ear g floors 0;");
+        tellBoth(x, 0, 0, 0, 0, 0, 0, 0, 0, 0, 0, 0, 0, 0, 0, 0);
+        due.is("511 walks", x.doubled(0, 1), 511);
+        due.is("the 500th is tried", x.secret(0, 1, 2), 1);
+        due.lie("the 500th is tried", x, 3, 0, 0, 0, 0, 0, 0, 0);
     }
 
     /** Ear g reads the step e behind n alone, so the first walk that it can't read has e at first. */
