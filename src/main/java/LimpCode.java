@@ -1006,17 +1006,23 @@ public final class LimpCode {
     private static final class Bounds {
         final int[][] least = new int[MOST_EARS][MOST_TIME];
         final int[][] most = new int[MOST_EARS][MOST_TIME];
+        /** Most calls ask about one ear or two: the others, which may hear anything, are passed over. */
+        final boolean[] narrowed = new boolean[MOST_EARS];
 
         void open() {
             for (int ear = 0; ear < MOST_EARS; ear++) {
-                Arrays.fill(least[ear], 0);
-                Arrays.fill(most[ear], LOUDEST);
+                narrowed[ear] = false;
             }
         }
 
         void narrow(int ear, int moment, int low, int high) {
             if (ear < 0 || ear >= MOST_EARS || moment < 0 || moment >= MOST_TIME) {
                 return;
+            }
+            if (!narrowed[ear]) {
+                narrowed[ear] = true;
+                Arrays.fill(least[ear], 0);
+                Arrays.fill(most[ear], LOUDEST);
             }
             least[ear][moment] = Math.max(least[ear][moment], low);
             most[ear][moment] = Math.min(most[ear][moment], high);
@@ -1030,7 +1036,7 @@ public final class LimpCode {
 
         boolean areQuietFrom(int time) {
             for (int ear = 0; ear < MOST_EARS; ear++) {
-                if (!areQuiet(ear, time, MOST_TIME)) {
+                if (narrowed[ear] && !areQuiet(ear, time, MOST_TIME)) {
                     return false;
                 }
             }
@@ -1050,7 +1056,7 @@ public final class LimpCode {
         int costOf(School school, int loud, int takes, int moment) {
             int cost = 0;
             for (int ear = 0; ear < school.earCount; ear++) {
-                cost += costTo(ear, school.heardBelow(loud, ear), takes, moment);
+                cost += narrowed[ear] ? costTo(ear, school.heardBelow(loud, ear), takes, moment) : 0;
             }
             return Math.min(cost, CANNOT);
         }
