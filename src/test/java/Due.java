@@ -4,15 +4,27 @@ import java.nio.charset.StandardCharsets;
 final class Due {
     private int checked;
     private int wrong;
+    private int sentences;
+    private String sentence = "";
+
+    /** What is looked at from here on is due by these words of the document. */
+    void says(String words) {
+        sentences++;
+        sentence = "\"" + words + "\": ";
+    }
 
     void is(String call, long got, long want) {
         checked++;
         if (got != want) {
             wrong++;
             if (wrong <= 40) {
-                System.out.println(call + " answered " + got + ", due is " + want);
+                System.out.println(sentence + call + " answered " + got + ", due is " + want);
             }
         }
+    }
+
+    void is(String call, boolean got, boolean want) {
+        is(call, got ? 1 : 0, want ? 1 : 0);
     }
 
     void lie(String call, LimpCode x, int... want) {
@@ -25,7 +37,8 @@ final class Due {
     }
 
     void finish() {
-        System.out.println(checked + " answers, " + wrong + " not as due");
+        String of = sentences > 0 ? " of " + sentences + " sentences" : "";
+        System.out.println(checked + " answers" + of + ", " + wrong + " not as due");
         if (wrong != 0) {
             System.exit(1);
         }
