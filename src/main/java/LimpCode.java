@@ -960,7 +960,7 @@ public final class LimpCode {
 
     /** Sounds told and untold, each with both times of day. */
     private static final class Sounds {
-        private static final int NEVER = Integer.MAX_VALUE;
+        private static final int NEVER = 2147483647;
 
         final int[] ears = new int[MOST_SOUNDS];
         final int[] moments = new int[MOST_SOUNDS];
