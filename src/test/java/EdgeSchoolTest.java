@@ -573,6 +573,8 @@ public final class EdgeSchoolTest {
         for (int i = 0; i < 2; i++) {
             Due.put(x, steps + "letter a s;letter b t;letter c t;" + ears);
             x.school();
+            x.step(1);
+            due.is("stuck by three letters", x.stuck(2), -1);
         }
         for (int i = 0; i < 2; i++) {
             Due.put(x, steps + "letter a s;" + ears);
