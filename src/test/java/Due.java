@@ -7,7 +7,7 @@ final class Due {
     private int sentences;
     private String sentence = "";
 
-    /** What is looked at from here on is due by these words of the document. */
+    /** What is looked at from here on is due by these words of the document, or by what follows from them. */
     void says(String words) {
         sentences++;
         sentence = "\"" + words + "\": ";
